@@ -1094,7 +1094,7 @@ public final class ElmLedger {
                     return false;
                 }
             }
-            return true;
+            return waiting == 0;
         }
 
         private void addPair(int one, int other) {

@@ -164,6 +164,14 @@ public final class TypeTest {
         y.addType('p', 5, 3);
         y.addType('v', 1, 0);
         int wide = y.addType('p', 5, y.addType('p', 2, y.addType('p', 1, y.addType('p', 0, 7))));
+        int left5 = y.addType('p', 7, 0);
+        for (int i = 1; i < 5; i++) {
+            left5 = y.addType('p', left5, i);
+        }
+        int first = y.addType('p', left5, 3);
+        Check.is("the first leaf is another variable", false, () -> y.areAlike(first, 6));
+        Check.is("the first leaf can not be put", false, () -> y.isGeneral(6, first));
+        Check.is("forty leaves, the first one put", true, () -> y.isGeneral(first, 6));
         Check.is("forty leaves alike to themselves", true, () -> y.areAlike(6, 6));
         Check.is("the last leaf is another variable", false, () -> y.areAlike(wide, 6));
         Check.is("forty leaves more general than themselves", true, () -> y.isGeneral(6, 6));
