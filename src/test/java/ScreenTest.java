@@ -250,6 +250,7 @@ public final class ScreenTest {
         x.load();
         x.draw();
         Check.is("loading sets nothing back", 2, x::skipped);
+        expect(x, "the first item was skipped", 0, 2);
     }
 
     private static void checkCurrentness() {
@@ -280,6 +281,13 @@ public final class ScreenTest {
         Check.is("travel back", true, x::isCurrent);
         add(x, 1, 1);
         Check.is("another text", false, x::isCurrent);
+        ElmLedger y = begin(3);
+        y.addBlock('f', 0, 0, true);
+        y.addBlock('c', 0, 0, true);
+        y.start();
+        y.draw();
+        add(y, 0, 1);
+        Check.is("another text of the first item alone", false, y::isCurrent);
     }
 
     private static void checkMeanCost() {
