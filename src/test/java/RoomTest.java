@@ -2,36 +2,31 @@ import java.lang.management.ManagementFactory;
 
 /** All calls of one run live in one room, so the dearest calls, made again and again, take next to none of it. */
 public final class RoomTest {
-    private static final int REPEATS = 400;
-    private static final long MOST_BYTES = 200_000;
+    /** The filled object has had 406 calls, and 512 are all that count. */
+    private static final int REPEATS = 100;
+    private static final int MOST_BYTES = 500;
 
     private interface Call {
         void make(ElmLedger x);
     }
 
     public static void main(String[] args) {
-        ElmLedger x = fill();
-        measure("a new object", other -> new ElmLedger(), 10_000 * REPEATS, x);
-        measure("draw", ElmLedger::draw, MOST_BYTES, x);
-        measure("costByTrying", ElmLedger::costByTrying, MOST_BYTES, x);
-        measure("isCurrent", ElmLedger::isCurrent, MOST_BYTES, x);
-        measure("travel", other -> other.travel(other.logged()), MOST_BYTES, x);
-        measure("change", other -> other.change(0, 0, 1), MOST_BYTES, x);
-        measure("load", ElmLedger::load, MOST_BYTES, x);
-        measure("fieldByLog", other -> other.fieldByLog(0), MOST_BYTES, x);
-        measure("tick", ElmLedger::tick, MOST_BYTES, x);
-        measure("start", ElmLedger::start, MOST_BYTES, x);
-        measure("isGeneral", other -> other.isGeneral(5, 5), MOST_BYTES, x);
-        measure("solve", ElmLedger::solve, MOST_BYTES, x);
-        measure("chosen", other -> other.chosen(3), MOST_BYTES, x);
-        measure("judge", other -> other.judge(0), MOST_BYTES, x);
-        measure("advise", RoomTest::adviseLong, MOST_BYTES, x);
+        measure("a new object", other -> new ElmLedger(), 10_000);
+        measure("draw", ElmLedger::draw, MOST_BYTES);
+        measure("costByTrying", ElmLedger::costByTrying, MOST_BYTES);
+        measure("isCurrent", ElmLedger::isCurrent, MOST_BYTES);
+        measure("travel", other -> other.travel(60), MOST_BYTES);
+        measure("change", other -> other.change(0, 0, 1), MOST_BYTES);
+        measure("load", ElmLedger::load, MOST_BYTES);
+        measure("fieldByLog", other -> other.fieldByLog(0), MOST_BYTES);
+        measure("tick", ElmLedger::tick, MOST_BYTES);
+        measure("start", ElmLedger::start, MOST_BYTES);
+        measure("isGeneral", other -> other.isGeneral(5, 5), MOST_BYTES);
+        measure("solve", ElmLedger::solve, MOST_BYTES);
+        measure("chosen", other -> other.chosen(3), MOST_BYTES);
+        measure("judge", other -> other.judge(0), MOST_BYTES);
+        measure("advise", other -> other.advise(0), MOST_BYTES);
         Check.end();
-    }
-
-    private static void adviseLong(ElmLedger x) {
-        RegistryTest.type(x, "abcdefgh");
-        x.advise(0);
     }
 
     private static ElmLedger fill() {
@@ -69,7 +64,8 @@ public final class RoomTest {
         return x;
     }
 
-    private static void measure(String what, Call call, long most, ElmLedger x) {
+    private static void measure(String what, Call call, int most) {
+        ElmLedger x = fill();
         com.sun.management.ThreadMXBean threads =
                 (com.sun.management.ThreadMXBean) ManagementFactory.getThreadMXBean();
         call.make(x);
@@ -78,9 +74,9 @@ public final class RoomTest {
         for (int i = 0; i < REPEATS; i++) {
             call.make(x);
         }
-        long bytes = threads.getThreadAllocatedBytes(thread) - before;
+        long bytes = (threads.getThreadAllocatedBytes(thread) - before) / REPEATS;
         if (bytes > most) {
-            System.out.println(what + ": " + bytes + " bytes");
+            System.out.println(what + ": " + bytes + " bytes a call");
         }
         Check.same(what + " keeps to its room", true, bytes <= most);
     }

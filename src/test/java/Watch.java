@@ -144,6 +144,7 @@ final class Watch {
             readFields();
             see("pending");
         }
+        sendEachKind();
         see("tick");
         see("update", 20);
         readFields();
@@ -156,17 +157,21 @@ final class Watch {
         readFields();
     }
 
-    private void useDraft() {
-        see("load");
-        readFields();
-        see("start");
-        readFields();
+    private void sendEachKind() {
         for (int i = 0; i < 5; i++) {
             see("send", i, 3);
             see("update", 1);
             readFields();
         }
         see("pending");
+    }
+
+    private void useDraft() {
+        see("load");
+        readFields();
+        see("start");
+        readFields();
+        sendEachKind();
         see("tick");
         see("update", 20);
         readFields();
