@@ -67,7 +67,7 @@ final class Caller {
         try {
             return object.getClass().getMethod(name, kinds).invoke(object, arguments).toString();
         } catch (InvocationTargetException e) {
-            return "!" + shorten(e.getCause().getClass().getName());
+            return shorten(e.getCause().getClass().getName().replaceFirst("^java\\.(lang|util)\\.", ""));
         } catch (ReflectiveOperationException e) {
             throw new IllegalArgumentException(name, e);
         }
@@ -87,15 +87,16 @@ final class Caller {
         };
     }
 
-    private static String shorten(String exception) {
+    /** How the edges write an exception. */
+    static String shorten(String exception) {
         return switch (exception) {
-            case "java.lang.IllegalArgumentException" -> "argument";
-            case "java.lang.IllegalStateException" -> "state";
-            case "java.lang.IndexOutOfBoundsException" -> "index";
-            case "java.lang.UnsupportedOperationException" -> "unsupported";
-            case "java.lang.ArithmeticException" -> "arithmetic";
-            case "java.util.NoSuchElementException" -> "element";
-            default -> exception;
+            case "IllegalArgumentException" -> "!argument";
+            case "IllegalStateException" -> "!state";
+            case "IndexOutOfBoundsException" -> "!index";
+            case "UnsupportedOperationException" -> "!unsupported";
+            case "ArithmeticException" -> "!arithmetic";
+            case "NoSuchElementException" -> "!element";
+            default -> "!" + exception;
         };
     }
 }

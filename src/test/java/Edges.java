@@ -17,7 +17,7 @@ final class Edges {
         }
     }
 
-    record Run(String place, String title, List<Call> calls) {
+    record Run(String place, String title, Sentence sentence, List<Call> calls) {
         @Override
         public String toString() {
             return place + " (" + title + ")";
@@ -61,7 +61,7 @@ final class Edges {
             String[] halves = line.substring(4).split(" = ", 2);
             named.put(halves[0], readCalls(halves[1]));
         } else if (line.startsWith("- ")) {
-            runs.add(new Run(place, line.substring(2), new ArrayList<>()));
+            runs.add(new Run(place, line.substring(2), sentences.get(sentences.size() - 1), new ArrayList<>()));
             runsOfSentence++;
         } else if (line.startsWith("  ")) {
             runs.get(runs.size() - 1).calls.addAll(readCalls(line));

@@ -28,6 +28,7 @@ public final class EdgesTest {
             checkRefusals(run);
         }
         checkQuotes(edges.sentences);
+        checkExceptions(edges);
         Check.end();
     }
 
@@ -115,6 +116,21 @@ public final class EdgesTest {
     private static void compare(String what, List<String> due, List<String> got) {
         int shared = Math.min(due.size(), got.size());
         Check.same(what, due.subList(0, shared), got.subList(0, shared));
+    }
+
+    /** Behind "Throws" of a promise, a run must have a call of it that throws that. */
+    private static void checkExceptions(Edges edges) {
+        for (Edges.Sentence sentence : edges.sentences) {
+            if (sentence.text().startsWith("Throws `")) {
+                String due = Caller.shorten(sentence.text().split("`")[1]);
+                String name = sentence.heading().split(": ")[1];
+                boolean isThrown = edges.runs.stream()
+                        .filter(run -> run.sentence() == sentence)
+                        .flatMap(run -> run.calls().stream())
+                        .anyMatch(call -> call.name().equals(name) && due.equals(call.due()));
+                Check.same(sentence.place() + ", a run that throws it", true, isThrown);
+            }
+        }
     }
 
     private static void checkQuotes(List<Edges.Sentence> sentences) throws Exception {
