@@ -67,6 +67,9 @@ final class Caller {
         try {
             return object.getClass().getMethod(name, kinds).invoke(object, arguments).toString();
         } catch (InvocationTargetException e) {
+            if (object instanceof ElmLedger && !Thrown.isOwn(e.getCause(), name)) {
+                return "!machine " + e.getCause();
+            }
             return shorten(e.getCause().getClass().getName().replaceFirst("^java\\.(lang|util)\\.", ""));
         } catch (ReflectiveOperationException e) {
             throw new IllegalArgumentException(name, e);
