@@ -66,7 +66,7 @@ final class Rules {
             "java.util.NoSuchElementException");
     private static final Set<String> LIBRARY = Set.of("String.length()", "String.charAt(int)", "String.isEmpty()",
             "String.equals(java.lang.Object)", "StringBuilder.StringBuilder()", "StringBuilder.append(char)",
-            "AbstractStringBuilder.setLength(int)", "AbstractStringBuilder.length()", "StringBuilder.toString()",
+            "StringBuilder.setLength(int)", "StringBuilder.length()", "StringBuilder.toString()",
             "ArrayList.ArrayList()", "ArrayList.add(E)", "ArrayList.get(int)", "ArrayList.set(int,E)",
             "ArrayList.remove(int)", "ArrayList.size()", "ArrayList.isEmpty()", "ArrayList.clear()",
             "Math.min(int,int)", "Math.max(int,int)", "Math.abs(int)", "Integer.bitCount(int)", "Object.Object()",
@@ -357,7 +357,8 @@ final class Rules {
         }
 
         private String writeCall(ExecutableElement method) {
-            String owner = method.getEnclosingElement().getSimpleName().toString();
+            String owner = method.getEnclosingElement().getSimpleName().toString()
+                    .replace("AbstractStringBuilder", "StringBuilder");
             return owner + "." + method.toString().replaceFirst("^<E>|^<init>", "");
         }
 
