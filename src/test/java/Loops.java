@@ -67,7 +67,7 @@ final class Loops {
     private static boolean isGrowing(String bound, StatementTree body) {
         for (String part : bound.split("[^\\w.]+")) {
             String list = part.replaceFirst("\\.size$", "");
-            if (isChanged(part, body) || Pattern.compile("(?<![\\w.])" + Pattern.quote(list + ".add(")).matcher(body.toString()).find()) {
+            if (isChanged(part, body) || stands(Pattern.quote(list + ".add("), body)) {
                 return true;
             }
         }
@@ -78,7 +78,10 @@ final class Loops {
         if (name.isEmpty() || !Character.isLetter(name.charAt(0))) {
             return false;
         }
-        String text = Pattern.quote(name);
-        return Pattern.compile("(?<![\\w.])" + text + "( ([-+*/|&]|<<|>>)?= |\\+\\+|--)").matcher(body.toString()).find();
+        return stands(Pattern.quote(name) + "( ([-+*/|&]|<<|>>)?= |\\+\\+|--)", body);
+    }
+
+    private static boolean stands(String pattern, Object body) {
+        return Pattern.compile("(?<![\\w.])" + pattern).matcher(body.toString()).find();
     }
 }

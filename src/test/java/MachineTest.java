@@ -14,8 +14,8 @@ import java.util.Random;
 public final class MachineTest {
     private static final int OBJECTS = 120;
     private static final int CALLS = 4000;
-    private static final int[] FAR = {Integer.MIN_VALUE, Integer.MIN_VALUE + 1, -100, -5, 10, 20, 21, 36, 40, 41, 60, 61,
-        10000, 999998, 999999, 1000000, Integer.MAX_VALUE - 1, Integer.MAX_VALUE};
+    private static final int[] FAR = {Integer.MIN_VALUE, Integer.MIN_VALUE + 1, -100, -5, 10, 20, 21, 36, 40, 41, 60,
+        61, 10000, 999998, 999999, 1000000, Integer.MAX_VALUE - 1, Integer.MAX_VALUE};
     private static final String LETTERS = "aabbccdeffklprrsvxz";
 
     private final Random random;

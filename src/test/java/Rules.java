@@ -283,7 +283,8 @@ final class Rules {
             new TreePathScanner<Void, Void>() {
                 @Override
                 public Void visitThrow(ThrowTree tree, Void nothing) {
-                    thrown.add(String.valueOf(trees.getTypeMirror(new TreePath(getCurrentPath(), tree.getExpression()))));
+                    TreePath made = new TreePath(getCurrentPath(), tree.getExpression());
+                    thrown.add(String.valueOf(trees.getTypeMirror(made)));
                     return null;
                 }
             }.scan(getCurrentPath(), null);
